@@ -259,43 +259,11 @@ public final class Pegrow {
     }
 
     public int next(int peg) {
-        Peg p = pegOf(peg);
-        if (p == null) {
-            return BAD;
-        }
-        Row r = p.row;
-        if (r == null) {
-            return FREE;
-        }
-        if (p.seen != r.changes) {
-            return refused(OLD);
-        }
-        if (!r.hasThingAt(p.ahead)) {
-            p.missed = true;
-            return refused(EMPTY);
-        }
-        p.ahead++;
-        return p.hold(p.ahead - 1, r.thingAt(p.ahead - 1));
+        return goOver(peg, true);
     }
 
     public int previous(int peg) {
-        Peg p = pegOf(peg);
-        if (p == null) {
-            return BAD;
-        }
-        Row r = p.row;
-        if (r == null) {
-            return FREE;
-        }
-        if (p.seen != r.changes) {
-            return refused(OLD);
-        }
-        if (!r.hasThingAt(p.ahead - 1)) {
-            p.missed = true;
-            return refused(EMPTY);
-        }
-        p.ahead--;
-        return p.hold(p.ahead, r.thingAt(p.ahead));
+        return goOver(peg, false);
     }
 
     public int side(int peg, int what) {
@@ -458,6 +426,27 @@ public final class Pegrow {
                 break;
         }
         return answer;
+    }
+
+    private int goOver(int peg, boolean forth) {
+        Peg p = pegOf(peg);
+        if (p == null) {
+            return BAD;
+        }
+        Row r = p.row;
+        if (r == null) {
+            return FREE;
+        }
+        if (p.seen != r.changes) {
+            return refused(OLD);
+        }
+        int place = forth ? p.ahead : p.ahead - 1;
+        if (!r.hasThingAt(place)) {
+            p.missed = true;
+            return refused(EMPTY);
+        }
+        p.ahead = forth ? place + 1 : place;
+        return p.hold(place, r.thingAt(place));
     }
 
     // What keeps a peg from changing or taking what it has in hand, or READY.
