@@ -275,7 +275,7 @@ public final class Pegrow {
         if (r == null) {
             return FREE;
         }
-        if (p.seen != r.changes) {
+        if (p.isOld()) {
             return OLD;
         }
         switch (what) {
@@ -318,7 +318,7 @@ public final class Pegrow {
         if (!r.hasRoomFor(1)) {
             return FULL;
         }
-        if (p.seen != r.changes) {
+        if (p.isOld()) {
             return refused(OLD);
         }
         r.putAt(p.ahead, newThing(name));
@@ -437,7 +437,7 @@ public final class Pegrow {
         if (r == null) {
             return FREE;
         }
-        if (p.seen != r.changes) {
+        if (p.isOld()) {
             return refused(OLD);
         }
         int place = forth ? p.ahead : p.ahead - 1;
@@ -451,7 +451,7 @@ public final class Pegrow {
 
     // What keeps a peg from changing or taking what it has in hand, or READY.
     private int handFault(Peg p, Row r) {
-        if (p.seen != r.changes) {
+        if (p.isOld()) {
             return refused(OLD);
         }
         // Ahead of STATE: a peg that missed tells LOST even if it had nothing in hand.
@@ -644,8 +644,9 @@ public final class Pegrow {
             return thing;
         }
 
+        // The place is looked at too, as add puts there: the count of changes may wrap around.
         boolean isOld() {
-            return row != null && seen != row.changes;
+            return row != null && (seen != row.changes || !row.canPutAt(ahead));
         }
     }
 }
