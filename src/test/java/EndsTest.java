@@ -114,8 +114,11 @@ public final class EndsTest extends Sentences {
             String before = state(x);
             allAre("the 61st, way " + way, FULL, x.put(0, 1, true, way), x.put(0, 1, false, way));
             is("state", state(x), before);
+            is("refusals", refusals(x), NO_REFUSALS);
             x.take(0, true, 0);
-            is("the 60th, way " + way, x.put(0, 1, way > 0, way), 60);
+            is("the 60th to the end, way " + way, x.put(0, 1, true, way), 60);
+            x.take(0, true, 0);
+            is("the 60th to the front, way " + way, x.put(0, 1, false, way), 60);
         }
     }
 

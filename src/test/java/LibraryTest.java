@@ -9,11 +9,13 @@ public final class LibraryTest {
     private static final String[] NAMES = {
         "put", "end", "take", "at", "lay", "insert", "drop", "find", "has", "lose", "all", "clear", "copy", "turn",
         "weave", "prune", "size", "sum", "peg", "next", "previous", "side", "change", "add", "remove", "old", "count"};
-    // How often each call comes, in the order of NAMES: all alike, full rows, busy pegs.
+    // How often each call comes, in the order of NAMES: all alike, full rows, busy pegs, and few things that stand
+    // in several places, where what was lost comes back.
     private static final int[][] WEIGHTS = {
         {9, 3, 3, 3, 3, 3, 3, 3, 3, 3, 3, 1, 1, 3, 3, 1, 2, 3, 9, 6, 6, 6, 6, 6, 6, 3, 4},
         {60, 2, 2, 2, 4, 20, 2, 2, 1, 2, 6, 0, 1, 2, 6, 1, 2, 3, 9, 6, 6, 3, 6, 9, 3, 2, 3},
-        {4, 0, 1, 0, 3, 1, 1, 0, 0, 1, 1, 0, 1, 4, 1, 1, 0, 2, 12, 30, 30, 6, 14, 14, 14, 3, 3}};
+        {4, 0, 1, 0, 3, 1, 1, 0, 0, 1, 1, 0, 1, 4, 1, 1, 0, 2, 12, 30, 30, 6, 14, 14, 14, 3, 3},
+        {3, 2, 8, 1, 8, 2, 4, 1, 1, 4, 5, 2, 5, 20, 3, 3, 1, 3, 16, 20, 20, 5, 20, 6, 8, 2, 3}};
     private static final int[] ODD = {-1, -2, 3, 4, 5, 7, 10, 59, 60, 61, 1000, Integer.MAX_VALUE, Integer.MIN_VALUE};
 
     private static long seed;

@@ -348,8 +348,8 @@ public final class PegsTest extends Sentences {
 
     static void promise24NothingInHand() {
         Pegrow x = pegged();
-        allAre("nothing in hand", STATE, x.change(0, 4), x.change(0, 4));
-        is("refusals", refusals(x), "0 0 2 0");
+        allAre("nothing in hand", STATE, x.change(0, 4), x.remove(0), x.change(0, 4));
+        is("refusals", refusals(x), "0 0 3 0");
         is("made", x.count(0), 3);
     }
 
@@ -432,6 +432,23 @@ public final class PegsTest extends Sentences {
         x.remove(0);
         is("the 60th", x.add(0, 1), 60);
         is("and one more", x.add(0, 1), FULL);
+    }
+
+    static void promise25FullRowLeavesThePegsAsTheyAre() {
+        Pegrow x = full();
+        x.peg(0, 0, 30);
+        x.peg(1, 0, 60);
+        x.next(1);
+        x.peg(2, 0, 30);
+        allAre("full", FULL, x.add(0, 1), x.add(1, 1));
+        allAre("old", 0, x.old(0), x.old(1), x.old(2));
+        is("lost by a miss, as it was", x.change(1, 1), LOST);
+        x.next(2);
+        x.remove(2);
+        x.put(0, 1, true, 0);
+        allAre("old and full", FULL, x.add(0, 1), x.add(1, 1));
+        allAre("old still", 1, x.old(0), x.old(1));
+        is("refusals", refusals(x), "1 0 0 0");
     }
 
     static void promise25Old() {
@@ -595,10 +612,30 @@ public final class PegsTest extends Sentences {
 
     static void promise28HundredsOfRefusals() {
         Pegrow x = new Pegrow();
-        for (int i = 0; i < 500; i++) {
+        Pegrow y = pegged();
+        Pegrow z = aged();
+        for (int i = 0; i < 250; i++) {
+            x.end(0, true, 0);
             x.at(0, 0);
+            y.change(0, 1);
+            y.remove(0);
+            z.next(0);
+            z.remove(0);
         }
-        is("refusals", refusals(x), "0 500 0 0");
+        is("of places and ends", refusals(x), "250 250 0 0");
+        is("with nothing in hand", refusals(y), "0 0 500 0");
+        is("of an old peg", refusals(z), "0 0 0 500");
+        x = new Pegrow();
+        x.peg(0, 0, 0);
+        for (int i = 0; i < 500; i++) {
+            x.next(0);
+        }
+        is("of one that stands at the end", refusals(x), "500 0 0 0");
+        x = new Pegrow();
+        for (int i = 0; i < 500; i++) {
+            x.drop(0, 0);
+        }
+        is("of places alone", refusals(x), "0 500 0 0");
     }
 
     static void promise28PegsThatStand() {

@@ -240,10 +240,12 @@ public final class SeveralTest extends Sentences {
     static void promise14PegsOfTheRowStandInNone() {
         Pegrow x = both();
         x.peg(2, 0, 0);
+        x.next(2);
         x.put(0, 6, true, 0);
         x.peg(3, 0, 4);
+        x.previous(3);
         x.copy(0, 1);
-        allAre("old ones and a young one", FREE, x.next(0), x.next(2), x.previous(3), x.old(0), x.old(3));
+        allAre("old ones and a young one", FREE, x.next(0), x.next(2), x.previous(3), x.old(0), x.old(2), x.old(3));
         is("standing", x.count(5), 1);
         is("old", x.count(6), 0);
         is("refusals", refusals(x), NO_REFUSALS);

@@ -15,6 +15,24 @@ public final class TermsTest extends Sentences {
         allAre("bad and free", BAD, x.side(0, 4), x.change(0, 10), x.add(0, 10));
     }
 
+    // Promises 21 to 26: of a peg that was old or had lost its hand, and whose row is full now.
+    static void answersFreeAheadOfTheRest() {
+        Pegrow x = full();
+        x.peg(0, 1, 0);
+        x.next(0);
+        x.peg(1, 1, 0);
+        x.put(1, 1, true, 0);
+        x.peg(2, 1, 0);
+        x.next(2);
+        x.lay(1, 0, 1);
+        x.copy(1, 0);
+        for (int peg = 0; peg < 4; peg++) {
+            allAre("free, peg " + peg, FREE, x.next(peg), x.previous(peg), x.side(peg, 0), x.change(peg, 1),
+                    x.add(peg, 1), x.remove(peg), x.old(peg));
+        }
+        is("refusals", refusals(x), "1 0 0 0");
+    }
+
     // Promises 2, 7, 12, 16, 25.
     static void answersBadAheadOfFull() {
         Pegrow x = full();
@@ -55,6 +73,9 @@ public final class TermsTest extends Sentences {
         Pegrow x = handed();
         x.lay(0, 1, 4);
         is("bad and lost", x.change(0, 10), BAD);
+        x.peg(0, 0, 3);
+        x.next(0);
+        is("bad and lost by a miss", x.change(0, 10), BAD);
     }
 
     // Promise 25.
@@ -448,6 +469,15 @@ public final class TermsTest extends Sentences {
         is("what the 512th call lays over", x.lay(0, 0, 9), 5109);
     }
 
+    // Promise 28: as many things as can be made and counted.
+    static void rowsThingsOf511Calls() {
+        Pegrow x = with(9);
+        for (int call = 2; call < 512; call++) {
+            x.lay(0, 0, 9);
+        }
+        is("made", x.count(0), 511);
+    }
+
     // ---- Pegs: where they stand
 
     // Promises 20 to 27: "There are the PEGS 0 to 3".
@@ -560,6 +590,17 @@ public final class TermsTest extends Sentences {
         return x;
     }
 
+    // The same, but the row of the three pegs has no things.
+    private static Pegrow watchedNone() {
+        Pegrow x = new Pegrow();
+        fill(x, 1, 4, 5);
+        for (int peg = 0; peg < 3; peg++) {
+            x.peg(peg, 0, 0);
+        }
+        x.peg(3, 1, 1);
+        return x;
+    }
+
     private static void grewOld(String by, Pegrow x) {
         allAre("old by " + by, 1, x.old(0), x.old(1), x.old(2));
         is("in another row, not old by " + by, x.old(3), 0);
@@ -584,7 +625,9 @@ public final class TermsTest extends Sentences {
             Pegrow x = watched();
             x.insert(0, place, 1);
             grewOld("insert", x);
-            x = watched();
+        }
+        for (int place = -1; place < 4; place++) {
+            Pegrow x = watched();
             x.all(0, place, 1);
             grewOld("all", x);
         }
@@ -593,12 +636,40 @@ public final class TermsTest extends Sentences {
         grewOld("weave", x);
     }
 
+    // Promises 2, 7, 12, 16: the same in a row that had none.
+    static void oldByWhatIsPutIntoNone() {
+        for (int way = 0; way < 3; way++) {
+            Pegrow x = watchedNone();
+            x.put(0, 1, false, way);
+            grewOld("put to the front of none, way " + way, x);
+            x = watchedNone();
+            x.put(0, 1, true, way);
+            grewOld("put to the end of none, way " + way, x);
+        }
+        Pegrow x = watchedNone();
+        x.insert(0, 0, 1);
+        grewOld("insert into none", x);
+        for (int place = -1; place < 1; place++) {
+            x = watchedNone();
+            x.all(0, place, 1);
+            grewOld("all into none", x);
+        }
+        x = watchedNone();
+        x.weave(0, 1);
+        grewOld("weave into none", x);
+    }
+
     // Promises 4, 8, 11, 13, 17: "or taken out of it".
     static void oldByWhatIsTaken() {
         for (int way = 0; way < 5; way++) {
             Pegrow x = watched();
-            x.take(0, way < 2, way);
-            grewOld("take, way " + way, x);
+            x.take(0, false, way);
+            grewOld("take from the front, way " + way, x);
+        }
+        for (int way = 0; way < 2; way++) {
+            Pegrow x = watched();
+            x.take(0, true, way);
+            grewOld("take from the end, way " + way, x);
         }
         for (int how = 0; how < 3; how++) {
             Pegrow x = watched();
@@ -618,19 +689,63 @@ public final class TermsTest extends Sentences {
         grewOld("clear", x);
     }
 
+    // Peg 0 by the other one, and just peg 0.
+    private static void oldByTheOther(String by, Pegrow x) {
+        is("old by " + by, x.old(0), 1);
+        is("the one that did it, by " + by, x.old(1), 0);
+        is("how many are old by " + by, x.count(6), 1);
+    }
+
     // Promises 25, 26: "by anything but itself (also by a PEG that stands at the same place)".
-    static void oldByAnotherPegAtTheSamePlace() {
-        Pegrow x = pegged();
-        x.peg(1, 0, 1);
+    static void oldByAnotherPegAtWhateverPlace() {
+        for (int place = 0; place < 4; place++) {
+            for (int other = 0; other < 4; other++) {
+                Pegrow x = with(1, 2, 3);
+                x.peg(0, 0, place);
+                x.peg(1, 0, other);
+                x.add(1, 4);
+                oldByTheOther("add", x);
+                x.peg(0, 0, place);
+                x.previous(1);
+                x.remove(1);
+                oldByTheOther("remove", x);
+            }
+        }
+    }
+
+    // Row 0 with three things; the pegs 0 and 1 have that at one place in hand.
+    private static Pegrow twiceHanded(int place) {
+        Pegrow x = with(1, 2, 3);
+        for (int peg = 0; peg < 2; peg++) {
+            x.peg(peg, 0, place);
+            x.next(peg);
+        }
+        return x;
+    }
+
+    // Promises 25, 26: also by one that has the same thing in hand.
+    static void oldByAnotherPegWithTheSameThingInHand() {
+        for (int place = 0; place < 3; place++) {
+            Pegrow x = twiceHanded(place);
+            x.remove(1);
+            oldByTheOther("remove", x);
+            x = twiceHanded(place);
+            x.add(1, 4);
+            oldByTheOther("add", x);
+        }
+    }
+
+    // Promises 25, 26: in a row that has none but that one thing.
+    static void oldByAnotherPegInARowOfNone() {
+        Pegrow x = new Pegrow();
+        x.peg(0, 0, 0);
+        x.peg(1, 0, 0);
         x.add(1, 4);
-        is("old by add", x.old(0), 1);
-        is("the one that added", x.old(1), 0);
-        x.peg(0, 0, 2);
+        oldByTheOther("add", x);
+        x.peg(0, 0, 1);
         x.previous(1);
-        x.next(1);
         x.remove(1);
-        is("old by remove", x.old(0), 1);
-        is("the one that removed", x.old(1), 0);
+        oldByTheOther("remove", x);
     }
 
     // Promises 25, 26: just the one by which it was done can go on.
@@ -648,12 +763,29 @@ public final class TermsTest extends Sentences {
 
     // Promises 6, 15, 24: "To lay a THING in place of another one puts and takes none".
     static void oldIsNoneByLaying() {
-        Pegrow x = watched();
-        x.lay(0, 0, 4);
-        x.turn(0);
-        x.next(1);
-        x.change(1, 5);
-        stayedYoung("lay, turn, change", x);
+        for (int place = 0; place < 3; place++) {
+            Pegrow x = watched();
+            x.lay(0, place, 4);
+            stayedYoung("lay", x);
+            x.peg(1, 0, place);
+            x.next(1);
+            x.change(1, 5);
+            stayedYoung("change", x);
+        }
+    }
+
+    // Promise 15: the same, by whatever number of things.
+    static void oldIsNoneByTurning() {
+        for (int size = 0; size <= 60; size++) {
+            Pegrow x = new Pegrow();
+            fillTo(x, 0, size);
+            x.peg(0, 0, 0);
+            x.peg(1, 0, size / 2);
+            x.peg(2, 0, size);
+            x.peg(3, 1, 0);
+            x.turn(0);
+            stayedYoung("turn of " + size, x);
+        }
     }
 
     // Promises 11, 12, 13, 16, 17: calls that have nothing to put or take.
@@ -720,14 +852,19 @@ public final class TermsTest extends Sentences {
         is("old, and all put back", x.old(0), 1);
     }
 
-    // Promise 27: "stays so", however often it is changed, also 256 times.
+    // Promises 27, 28: "stays so", however often it is changed, also 256 times.
     static void oldStaysHoweverOftenTheRowIsChanged() {
         Pegrow x = new Pegrow();
         x.peg(0, 0, 0);
-        for (int i = 0; i < 150; i++) {
+        x.put(0, 1, true, 0);
+        x.peg(1, 0, 1);
+        x.take(0, true, 0);
+        for (int i = 0; i < 165; i++) {
             x.put(0, 1, true, 0);
+            int between = i % 2 == 0 ? 2 : x.count(6);
             x.take(0, true, 0);
-            is("old", x.old(0), 1);
+            int behind = i % 2 == 0 ? x.count(6) : 2;
+            allAre("old", 2, between, behind);
         }
     }
 
@@ -789,6 +926,33 @@ public final class TermsTest extends Sentences {
         is("the other one's hand", x.remove(1), 32);
     }
 
+    // Row 0 with one thing, told as 1, at both its ends, and 12 between; the pegs 0 and 1 have that at the front.
+    private static Pegrow sameAtBothEnds() {
+        Pegrow x = with(1, 2);
+        x.copy(1, 0);
+        x.take(1, true, 0);
+        x.all(0, -1, 1);
+        for (int peg = 0; peg < 2; peg++) {
+            x.peg(peg, 0, 0);
+            x.next(peg);
+        }
+        return x;
+    }
+
+    // Promises 6, 15, 24, 26: "as long as it is so", also behind a lay or a change, if a turn lays the same thing there.
+    static void lostNoLongerAsTheSameThingIsLaidThere() {
+        Pegrow x = sameAtBothEnds();
+        x.lay(0, 0, 1);
+        allAre("lost by lay", LOST, x.change(0, 4), x.remove(0));
+        x.turn(0);
+        is("the same thing from the other end", x.remove(0), 1);
+        x = sameAtBothEnds();
+        x.change(1, 1);
+        allAre("lost by change", LOST, x.change(0, 4), x.remove(0));
+        x.turn(0);
+        is("the same thing from the other end", x.change(0, 4), 1);
+    }
+
     // Promises 15, 24, 26: "as long as it is so".
     static void lostNoLongerAsItsThingIsBack() {
         Pegrow x = pegged();
@@ -797,19 +961,18 @@ public final class TermsTest extends Sentences {
         x.turn(0);
         is("turned back", x.change(0, 4), 1);
         x.turn(0);
+        allAre("lost", LOST, x.change(0, 5), x.remove(0), x.change(0, 5));
+        x.turn(0);
+        is("turned back", x.change(0, 5), 34);
+        x.turn(0);
         is("lost", x.remove(0), LOST);
         x.turn(0);
-        is("turned back", x.remove(0), 34);
+        is("turned back", x.remove(0), 45);
     }
 
     // Promises 15, 24, 26: "another THING": one thing that stands at both ends is none.
     static void lostNotByTheSameThing() {
-        Pegrow x = with(1, 2);
-        x.copy(1, 0);
-        x.take(1, true, 0);
-        x.all(0, -1, 1);
-        x.peg(0, 0, 0);
-        x.next(0);
+        Pegrow x = sameAtBothEnds();
         x.turn(0);
         is("one thing at both ends", x.remove(0), 1);
     }
@@ -870,7 +1033,15 @@ public final class TermsTest extends Sentences {
         x.turn(0);
         x.lay(0, 1, 4);
         x.peg(0, 0, 9);
+        x.peg(0, 3, 0);
         x.add(0, 10);
+        for (int what = 0; what < 4; what++) {
+            x.side(0, what);
+        }
+        x.old(0);
+        x.peg(1, 0, 0);
+        x.next(1);
+        x.change(1, 5);
         allAre("lost", LOST, x.change(0, 4), x.remove(0), x.change(0, 4));
     }
 
